@@ -230,6 +230,7 @@ public final class FamilyFields {
 
     public int same(int a, int b) {
         if (!heap.isThing(a) || !heap.isThing(b)) return BAD;
+        heap.likenUpTo(Math.max(a, b));
         return heap.things.get(a).likeness == heap.things.get(b).likeness ? 1 : 0;
     }
 
@@ -352,7 +353,7 @@ public final class FamilyFields {
                 case SORT_SHORT: return (short) bits;
                 case SORT_CHAR: return (char) bits;
                 case SORT_INT: return (int) bits;
-                case SORT_FLOAT: return ((int) bits & Integer.MAX_VALUE) > FLOAT_INFINITE ? FLOAT_NO_NUMBER : (int) bits;
+                case SORT_FLOAT: return isNoFloat((int) bits) ? FLOAT_NO_NUMBER : (int) bits;
                 case SORT_DOUBLE: return isNoNumber(bits) ? DOUBLE_NO_NUMBER : bits;
                 default: return bits;
             }
@@ -374,6 +375,10 @@ public final class FamilyFields {
             if (isNoNumber(asDouble)) return false;
             long place = placeOf(asDouble);
             return placeOf(doubleOfLong(low)) <= place && place <= placeOf(doubleOfLong(high));
+        }
+
+        private static boolean isNoFloat(int bits) {
+            return (bits & Integer.MAX_VALUE) > FLOAT_INFINITE;
         }
 
         private static boolean isNoNumber(long bits) {
@@ -697,14 +702,15 @@ public final class FamilyFields {
         }
     }
 
-    /** An object. */
+    /** An object; its parts that are objects were made ahead of it, so they have lower numbers. */
     private static final class Thing {
         final long[] bits = new long[MAX_PARTS];
         int record;
         /** The line as which it was kept in this build. */
         int line;
-        /** The lowest object that is the same as this one. */
+        /** The lowest object that is the same as this one; known of the first objects, as far as it was asked for. */
         int likeness;
+        /** While lines are counted: it is to be kept. */
         boolean wanted;
     }
 
@@ -718,6 +724,7 @@ public final class FamilyFields {
         int rowCalls;
         final ArrayList<Thing> things = new ArrayList<>();
         int thingCount;
+        private int likenedCount;
         int makeCalls;
         /** Code, record, part, check and line of the latest failure. */
         final int[] cause = {FINE, NONE, NONE, NONE, NONE};
@@ -730,6 +737,7 @@ public final class FamilyFields {
             rowCount = 0;
             rowCalls = 0;
             thingCount = 0;
+            likenedCount = 0;
             makeCalls = 0;
         }
 
@@ -823,18 +831,23 @@ public final class FamilyFields {
             thing.record = record;
             System.arraycopy(bits, 0, thing.bits, 0, MAX_PARTS);
             thing.line = NONE;
-            thing.likeness = likenessOf(thing);
             thingCount++;
             return thingCount - 1;
         }
 
-        /** Found as an object is made, so that comparing two needs no way down through their parts. */
-        private int likenessOf(Thing made) {
-            for (int t = 0; t < thingCount; t++) {
-                Thing other = things.get(t);
-                if (other.likeness == t && areAlike(made, other)) return t;
+        /** From the lowest on, so that comparing two objects needs no way down through the objects in their parts. */
+        void likenUpTo(int number) {
+            for (int t = likenedCount; t <= number && t < thingCount; t++) {
+                things.get(t).likeness = likenessOf(t);
+                likenedCount = t + 1;
             }
-            return thingCount;
+        }
+
+        private int likenessOf(int number) {
+            for (int t = 0; t < number; t++) {
+                if (things.get(t).likeness == t && areAlike(things.get(t), things.get(number))) return t;
+            }
+            return number;
         }
 
         private boolean areAlike(Thing a, Thing b) {

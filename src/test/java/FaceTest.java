@@ -101,15 +101,16 @@ public final class FaceTest {
         longMethods(code);
     }
 
-    /** A method ends with the brace that stands as deep as its head. */
+    /** A method's head and its last brace stand four or eight deep; so do those of a class, which may be long. */
     private static void longMethods(String code) {
-        int since = 0;
         String[] lines = code.split("\n");
+        int head = 0;
         for (int i = 0; i < lines.length; i++) {
-            boolean head = lines[i].matches("( {4}| {8})[a-zA-Z].*\\) \\{") && !lines[i].matches(" +(if|for|while|switch).*");
-            if (head) since = i;
+            if (lines[i].matches("( {4}| {8})[a-zA-Z].*\\) \\{")) head = i;
+            if (lines[i].matches(" {4}[a-zA-Z].* class .*\\{")) head = lines.length;
             if (lines[i].matches("( {4}| {8})}")) {
-                due.holds("the method that ends on line " + (i + 1) + " is short", i - since < 60 || lines[i].length() == 5);
+                due.holds("the method that ends on line " + (i + 1) + " is short", i - head < 60);
+                head = lines.length;
             }
         }
     }

@@ -122,7 +122,8 @@ public final class ObjectsTest {
         due.is("keep(0)", x.keep(0), 0);
         due.is("load(0) is not by make()", x.load(0), 100);
         due.is("build()", x.build(), 101);
-        due.is("make(0) in the next build", makeOf(x, 1), 0);
+        for (int i = 0; i < 100; i++) due.is("make(0) in the next build", makeOf(x, 1), i);
+        due.is("make(0) once more", x.make(0), FamilyFields.FULL);
     }
 
     private static void startsAheadOfChecks() {
@@ -359,7 +360,7 @@ public final class ObjectsTest {
         due.is("what is no number is alike", x.same(0, 1), 1);
         due.is("two zeros are not", x.same(2, 3), 0);
         due.is("two rows are not, with items alike", x.same(2, 4), 0);
-        due.is("of two records", x.same(2, 5), 0);
+        for (int o = 0; o < 5; o++) due.is("of two records", x.same(o, 5), 0);
         due.is("alike", x.same(6, 2), 1);
         due.is("itself", x.same(0, 0), 1);
         due.is("same(0, 7)", x.same(0, 7), BAD);

@@ -21,6 +21,8 @@ public final class TableTest {
         loadsStartLate();
         loadsAreChecked();
         failuresInside();
+        failuresAreTriedFromTheStart();
+        keepCountsAnew();
         linesTell();
         words();
         ranges();
@@ -122,6 +124,7 @@ public final class TableTest {
         due.is("keep(63)", x.keep(63), 63);
         due.is("keep(64)", x.keep(64), FULL);
         due.is("keep(10): it has its line", x.keep(10), 10);
+        due.is("word(a, a, -1) over all lines", x.word('a', 'a', -1), 0);
         due.is("count(5)", x.count(5), 64);
         due.is("keep(66): BAD ahead of FULL", x.keep(66), BAD);
         x.build();
@@ -358,6 +361,10 @@ public final class TableTest {
         due.is("load(1)", x.load(1), 1);
         due.is("line(0, 3): it was loaded on the way", x.line(0, 3), 0);
         x.build();
+        make(x, 0, -1, -1, 7);
+        due.is("load(1) behind another object", x.load(1), 2);
+        due.is("told(2, 0) is an object, not a line", x.told(2, 0), 1);
+        x.build();
         x.without(0, 0);
         x.without(0, 0);
         due.is("load(1) without these parts", x.load(1), 0);
@@ -452,6 +459,37 @@ public final class TableTest {
         due.is("has no line", x.cause(4), NONE);
     }
 
+    /** What fails in its last part is loaded from its first part on when it is tried again. */
+    private static void failuresAreTriedFromTheStart() {
+        FamilyFields x = withTree();
+        make(x, 0, -1, -1, 6);
+        make(x, 0, 0, -1, 7);
+        x.keep(1);
+        x.build();
+        x.becomes(0, 2, 1, 0);
+        due.is("load(1): an int does not go to a byte", x.load(1), -16);
+        due.is("the line is the inner one", x.cause(4), 0);
+        x.becomes(0, 2, 5, 0);
+        x.without(0, 1);
+        due.is("load(1)", x.load(1), 1);
+        long[][] told = {{-1, 6}, {0, 7}};
+        for (int o = 0; o < 2; o++) {
+            for (int p = 0; p < 2; p++) due.is("told(" + o + ", " + p + ")", x.told(o, p), told[o][p]);
+        }
+    }
+
+    /** An earlier keep() leaves nothing behind that a later one would count. */
+    private static void keepCountsAnew() {
+        FamilyFields x = withTree();
+        make(x, 0, -1, -1, 0);
+        for (int i = 1; i < 65; i++) make(x, 0, i - 1, -1, i);
+        due.is("keep(64): no room", x.keep(64), FULL);
+        x.build();
+        make(x, 0, -1, -1, 0);
+        for (int i = 1; i < 65; i++) make(x, 0, i == 1 ? NONE : i - 1, -1, i);
+        due.is("keep(64): all but the first", x.keep(64), 63);
+    }
+
     private static void linesTell() {
         FamilyFields x = new FamilyFields();
         x.record();
@@ -520,6 +558,8 @@ public final class TableTest {
         due.is("range(q, -1, 0, 9, -1): no enumeration", x.range('q', -1, 0, 9, -1), NONE);
         due.is("range(q, 0, 0, 9, -2)", x.range('q', 0, 0, 9, -2), NONE);
         due.is("range(q, 0, 0, 9, 2)", x.range('q', 0, 0, 9, 2), NONE);
+        due.is("range(x, 0, 0, 9, -1): no such part", x.range('x', 0, 0, 9, -1), 0);
+        due.is("range(x, 0, 0, 9, 0): no such part", x.range('x', 0, 0, 9, 0), NONE);
         due.is("range(p, 0, least, greatest, -1)", x.range('p', 0, Integer.MIN_VALUE, Integer.MAX_VALUE, -1), 2);
         x.build();
         x.forget(0, 0);
