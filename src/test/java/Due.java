@@ -5,16 +5,27 @@ import java.util.List;
 final class Due {
     private static final int SHOWN = 20;
     private final List<String> wrong = new ArrayList<>();
+    private String sentence = "";
     private int asked;
+
+    /** What is asked from here on holds the class to this sentence of a promise. */
+    void promise(int number, String words) {
+        sentence = "promise " + number + ", '" + words + "': ";
+    }
+
+    /** What is asked from here on holds the class to this sentence of the document's terms, on which promises rest. */
+    void term(String words) {
+        sentence = "terms, '" + words + "': ";
+    }
 
     void is(String call, long got, long due) {
         asked++;
-        if (got != due) wrong.add(call + " answered " + got + ", due is " + due);
+        if (got != due) wrong.add(sentence + call + " answered " + got + ", due is " + due);
     }
 
     void holds(String what, boolean does) {
         asked++;
-        if (!does) wrong.add("does not hold: " + what);
+        if (!does) wrong.add(sentence + "does not hold: " + what);
     }
 
     void end() {
