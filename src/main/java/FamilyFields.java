@@ -429,7 +429,7 @@ public final class FamilyFields {
             if (fraction == 0) return sign;
             // Floats too small for a leading digit have one as doubles: the fraction as a number, scaled down.
             long scale = (long) (FLOAT_BIAS - 1 + FLOAT_FRACTION) << DOUBLE_FRACTION;
-            return sign | doubleOfLong(fraction) - scale;
+            return sign | roundedSize(fraction, DOUBLE_FRACTION, DOUBLE_BIAS) - scale;
         }
     }
 

@@ -20,10 +20,13 @@ public final class ModelTest {
     private long answer;
     /** How eagerly types are changed once there are some. */
     private final int calm;
+    /** Some runs come to the limits of rows, objects and lines. */
+    private final boolean crowded;
 
     private ModelTest(long seed) {
         random = new Random(seed);
         calm = random.nextInt(3);
+        crowded = seed % 4 == 0;
     }
 
     public static void main(String[] args) {
@@ -78,7 +81,8 @@ public final class ModelTest {
 
     private void step() {
         int kind = random.nextInt(100);
-        if (kind < 4) newBuild();
+        if (crowded && random.nextInt(20) == 0) crowd();
+        else if (kind < (crowded ? 2 : 4)) newBuild();
         else if (kind < 24 - 8 * calm) changeTypes();
         else if (kind < 34) useRows();
         else if (kind < 60) makeOne();
@@ -92,6 +96,21 @@ public final class ModelTest {
         same("build()", x.build(), m.build());
         for (int i = random.nextInt(4); i > 0; i--) changeTypes();
         for (int i = random.nextInt(4); i > 0; i--) loadOne();
+    }
+
+    private void crowd() {
+        int lane = any(8), n = any(17), r = below(m.count(1));
+        switch (random.nextInt(3)) {
+            case 0:
+                for (int i = 0; i < 21; i++) same("row(" + lane + ", " + n + ")", x.row(lane, n), m.row(lane, n));
+                break;
+            case 1:
+                makeOne();
+                for (int i = 0; i < 51 && answer >= 0; i++) same("make(" + r + ")", x.make(r), m.make(r));
+                break;
+            default:
+                for (int o = m.count(4) - 1; o >= 0; o -= 1 + random.nextInt(3)) same("keep(" + o + ")", x.keep(o), m.keep(o));
+        }
     }
 
     private void addEnumeration() { same("enumeration()", x.enumeration(), m.enumeration()); }
