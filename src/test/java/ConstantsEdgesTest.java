@@ -6,6 +6,7 @@ public final class ConstantsEdgesTest {
     private static final Due due = new Due();
 
     public static void main(String[] args) {
+        ordinalsAndBodies();
         names();
         namesThatAreNot();
         namesOfWhatFails();
@@ -16,6 +17,19 @@ public final class ConstantsEdgesTest {
         starts();
         startsThatAreNot();
         due.end();
+    }
+
+    private static void ordinalsAndBodies() {
+        due.term("a CONSTANT is told by its ORDINAL, from 0 on; it may be BODIED.");
+        for (int bodied = 0; bodied < 256; bodied++) {
+            FamilyFields x = new FamilyFields();
+            x.enumeration();
+            for (int c = 0; c < 8; c++) due.is("constant", x.constant(0, 'a' + c, (bodied >> c & 1) == 1), c);
+            for (int c = 0; c < 8; c++) {
+                due.is("named(0, " + (char) ('a' + c) + ")", x.named(0, 'a' + c), c);
+                due.is("ONCE by " + c + " of " + bodied, x.work(0, c, 0, 100), once((bodied >> c & 1) == 1, c, 100));
+            }
+        }
     }
 
     private static void names() {

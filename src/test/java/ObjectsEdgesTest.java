@@ -5,6 +5,11 @@ public final class ObjectsEdgesTest {
     private static final Due due = new Due();
 
     public static void main(String[] args) {
+        numbered();
+        sorts();
+        sortsWithNone();
+        bitsOfNumbers();
+        bitsOfOthers();
         gives();
         numbersFromBits();
         recordsToMake();
@@ -34,6 +39,113 @@ public final class ObjectsEdgesTest {
         sameByBits();
         sameByObjects();
         due.end();
+    }
+
+    private static void numbered() {
+        due.term("======== 2 OBJECTS are numbered from 0 on, as they are made, ROWS likewise (with 0 to 16 ITEMS, 0 at first).");
+        FamilyFields x = Worlds.withPart(10, 4);
+        x.part(0, 'b', 4, 0, 0);
+        x.check(0, 1, 2, 0, 0);
+        for (int build = 0; build < 3; build++) {
+            due.is("row(4, -1)", x.row(4, -1), -14);
+            due.is("row(4, 3), the first ROW", x.row(4, 3), 0);
+            due.is("row(5, 1)", x.row(5, 1), 1);
+            due.is("make(0), the first OBJECT", Worlds.make(x, 0, 0, 7), 0);
+            due.is("make(0) that fails", Worlds.make(x, 0, 0, 0), -13);
+            due.is("make(0) that is BAD", Worlds.make(x, 0, 1, 7), BAD);
+            due.is("make(0) behind those", Worlds.make(x, 0, -1, 8), 1);
+            due.is("keep(0)", x.keep(0), build);
+            due.is("load(" + build + ")", x.load(build), 2);
+            due.is("the ROW that it made", x.told(2, 0), 2);
+            due.is("row(4, 3)", x.row(4, 3), 3);
+            due.is("make(0)", Worlds.make(x, 0, 3, 9), 3);
+            due.is("OBJECTS", x.count(4), 4);
+            due.is("ROWS", x.count(3), 4);
+            long[] numbers = {7, 8, 7, 9};
+            for (int o = 0; o < 4; o++) due.is("told(" + o + ", 1)", x.told(o, 1), numbers[o]);
+            due.is("build()", x.build(), 4);
+        }
+    }
+
+    /** What the machine's own number of a sort makes of bits. */
+    private static long machine(int sort, long bits) {
+        switch (sort) {
+            case 0: return bits != 0 ? 1 : 0;
+            case 1: return (byte) bits;
+            case 2: return (short) bits;
+            case 3: return (char) bits;
+            case 4: return (int) bits;
+            case 6: return Float.floatToIntBits(Float.intBitsToFloat((int) bits));
+            case 7: return Double.doubleToLongBits(Double.longBitsToDouble(bits));
+            default: return bits;
+        }
+    }
+
+    private static void sorts() {
+        due.term("SORTS of a PART: 0 flag, 1 byte, 2 short, 3 char, 4 int, 5 long, 6 float, 7 double; 8 a CONSTANT of an ENUMERATION,"
+            + " or none; 9 a SET of its CONSTANTS; 10 a ROW of a LANE (0 .. 7, as SORTS), or none; 11 an OBJECT of a FAMILY, or none.");
+        for (int sort = 0; sort < 8; sort++) {
+            FamilyFields x = Worlds.withPart(sort, 0);
+            x.record();
+            due.is("part of SORT 10, of LANE " + sort, x.part(1, 'a', 10, sort, 0), 0);
+            due.is("row(" + sort + ", 1)", x.row(sort, 1), 0);
+            due.is("make(1) of that ROW", Worlds.make(x, 1, 0), 0);
+            for (int bit = 0; bit < 64; bit++) {
+                if (x.count(4) > 95) {
+                    x.build();
+                    x.row(sort, 1);
+                }
+                for (long bits : new long[] {1L << bit, (1L << bit) - 1, -1L << bit}) {
+                    int made = Worlds.make(x, 0, bits);
+                    due.is("SORT " + sort + " of " + bits, x.told(made, 0), machine(sort, bits));
+                    x.put(0, 0, bits);
+                    due.is("LANE " + sort + " of " + bits, x.item(0, 0), machine(sort, bits));
+                }
+            }
+        }
+    }
+
+    private static void sortsWithNone() {
+        for (int sort = 8; sort < 12; sort++) {
+            FamilyFields x = Worlds.withPart(sort, 0);
+            x.permit(0, false, 0);
+            due.is("SORT " + sort + " of none", Worlds.make(x, 0, -1), sort == 9 ? BAD : 0);
+            if (sort != 9) due.is("told", x.told(0, 0), -1);
+            due.is("SORT " + sort + " of less", Worlds.make(x, 0, -2), BAD);
+            x.build();
+            x.row(0, 0);
+            due.is("SORT " + sort + " of number 0", Worlds.make(x, 0, 0), sort == 11 ? BAD : 0);
+        }
+    }
+
+    private static void bitsOfNumbers() {
+        due.term("BITS of it: of 0: 1 or 0; of 1 to 5 itself; of 6 its 32 bits (as an int), of 7 its 64"
+            + " (of what is no number 0x7fc00000, 0x7ff8000000000000); of 8 the ORDINAL, of 9 the sum of 2^ORDINAL,"
+            + " of 10, 11 the number; none: -1.");
+        long[][] given = {{0, 0, 0}, {0, 9, 1}, {1, -7, -7}, {2, -700, -700}, {3, 50000, 50000}, {4, -70000, -70000},
+            {5, -(1L << 40), -(1L << 40)}, {6, bits(6, 1.5), 0x3fc00000}, {6, bits(6, -1.5), (int) 0xbfc00000L},
+            {6, bits(6, -0.0), LEAST}, {6, bits(6, Double.NaN), 0x7fc00000}, {7, bits(7, 1.5), 0x3ff8000000000000L},
+            {7, bits(7, -1.5), 0xbff8000000000000L}, {7, bits(7, -0.0), Long.MIN_VALUE}, {7, bits(7, Double.NaN), 0x7ff8000000000000L}};
+        for (long[] g : given) {
+            FamilyFields x = Worlds.withPart((int) g[0], 0);
+            due.is("make(0)", Worlds.make(x, 0, g[1]), 0);
+            due.is("BITS of SORT " + g[0], x.told(0, 0), g[2]);
+        }
+    }
+
+    private static void bitsOfOthers() {
+        FamilyFields x = Worlds.withConstants(8);
+        x.family();
+        x.record();
+        for (int p = 0; p < 4; p++) x.part(0, 'a' + p, 8 + p, 0, 0);
+        x.permit(0, false, 0);
+        for (int set = 0; set < 256; set++) {
+            int next = x.count(4), ordinal = set % 9 - 1, row = x.row(0, set % 17);
+            due.is("make(0)", Worlds.make(x, 0, ordinal, set, row, next - 1), next);
+            long[] told = {ordinal, set, row, next - 1};
+            for (int p = 0; p < 4; p++) due.is("BITS of SORT " + (8 + p), x.told(next, p), told[p]);
+            if (next == 39) x.build();
+        }
     }
 
     private static void gives() {
@@ -173,8 +285,8 @@ public final class ObjectsEdgesTest {
     }
 
     private static void everyPartIsAsked() {
-        due.promise(20, "a number of a PART of SORT 8 (-1 or an ORDINAL), 9 (a sum of those), 10 (-1, or a ROW of that LANE),"
-            + " 11 (-1, or an OBJECT of that FAMILY) that is none such");
+        due.promise(20, "BAD: the RECORD, or a number of a PART of SORT 8 (-1 or an ORDINAL), 9 (a sum of those),"
+            + " 10 (-1, or a ROW of that LANE), 11 (-1, or an OBJECT of that FAMILY) that is none such");
         for (int bad = 0; bad < 6; bad++) {
             for (int sort = 8; sort < 12; sort++) {
                 FamilyFields x = Worlds.withConstants(3);
@@ -192,7 +304,7 @@ public final class ObjectsEdgesTest {
     }
 
     private static void everyCodeOfAMake() {
-        due.promise(20, "-10 less the code.");
+        due.term("CHECKS of a PART, with the code of what is THROWN:");
         long[][] checks = {{4, 0, 5, 9, 4, 1}, {8, 1, 0, 0, -1, 2}, {4, 2, 0, 0, 0, 3}, {4, 3, 0, 0, -1, 4}, {10, 4, 2, 0, 0, 5},
             {11, 5, 0, 0, 0, 6}, {8, 6, 0, 0, 0, 7}};
         for (long[] c : checks) {
@@ -208,6 +320,7 @@ public final class ObjectsEdgesTest {
                 due.is("OBJECTS", x.count(4), 1);
             }
         }
+        due.promise(20, "-10 less the code.");
         FamilyFields x = Worlds.withPart(8, 0);
         x.fails(0, true);
         due.is("make(0): INIT", Worlds.make(x, 0, 0), -19);

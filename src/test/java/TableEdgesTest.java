@@ -6,11 +6,14 @@ public final class TableEdgesTest {
     private static final Due due = new Due();
 
     public static void main(String[] args) {
+        story();
+        lastCalls();
         keepIsBad();
         keepIsFull();
         keepIsFullByParts();
         keepsOnceInABuild();
         keepsPartsInOrder();
+        keepsOfEachPart();
         keepsWhatIsThen();
         loadIsBad();
         loadsOnceInABuild();
@@ -58,6 +61,91 @@ public final class TableEdgesTest {
 
     private static void causeIs(FamilyFields x, int... cause) {
         for (int what = 0; what < 5; what++) due.is("cause(" + what + ")", x.cause(what), cause[what]);
+    }
+
+    private static void story() {
+        due.term("Objects of families as fields: enumerations with constants, some with bodies of their own; records with parts"
+            + " of all sorts and constructors that check them; sealed families told by tags; what is kept lies in columns by lanes"
+            + " and names, and is made back through the constructors of other builds, where parts came, went or widened,"
+            + " constants moved or went; and who started first. ======== 1 TYPES.");
+        FamilyFields x = allSorts();
+        long[] inner = {1, -100, -30000, 60000, 7, 1L << 40};
+        long[] outer = {0x3fc00000L, 0x4004000000000000L, 1, 7, 0, 0};
+        due.is("make(0) that its constructor refuses", Worlds.make(x, 0, 1, -100, -30000, 60000, 0, 1), -13);
+        due.is("make(0)", Worlds.make(x, 0, inner), 0);
+        due.is("make(1)", Worlds.make(x, 1, outer), 1);
+        for (int p = 0; p < 6; p++) due.is("told(0, " + p + ")", x.told(0, p), inner[p]);
+        for (int p = 0; p < 6; p++) due.is("told(1, " + p + ")", x.told(1, p), outer[p]);
+        due.is("tag(0, 0)", x.tag(0, 0), 1);
+        due.is("tag(1, 0)", x.tag(1, 0), 0);
+        due.is("a body of its own", x.work(0, 1, 0, 1), 5);
+        due.is("no body of its own", x.work(0, 2, 0, 1), 3);
+        int[] starts = {0, 1, 10, NONE};
+        for (int i = 0; i < 4; i++) due.is("started(" + i + ")", x.started(i), starts[i]);
+        due.is("keep(1)", x.keep(1), 1);
+        due.is("the column of a constant", x.word(Due.name("constant"), 'b', 0), 1);
+        due.is("the column of a set", x.range(Due.name("set"), 0, 2, 2, 0), 1);
+        due.is("build()", x.build(), 2);
+        otherBuild(x);
+    }
+
+    /** Record 0 with parts of sorts 0 to 5, record 1 of sorts 6 to 11, each named by its sort; family 0 of both. */
+    private static FamilyFields allSorts() {
+        FamilyFields x = Worlds.withConstants(3);
+        x.family();
+        x.record();
+        x.record();
+        x.permit(0, false, 1);
+        x.permit(0, false, 0);
+        String[] names = {"flag", "byte", "short", "char", "int", "long", "float", "double", "constant", "set", "row", "object"};
+        for (int sort = 0; sort < 12; sort++) x.part(sort / 6, Due.name(names[sort]), sort, 0, 0);
+        x.check(0, 4, 2, 0, 0);
+        x.check(1, 2, 6, 0, 0);
+        x.row(0, 2);
+        x.put(0, 1, 1);
+        return x;
+    }
+
+    private static void otherBuild(FamilyFields x) {
+        due.is("a constant moves", x.exchange(0, 1, 2), 1);
+        due.is("a constant goes", x.forget(0, 0), 2);
+        due.is("a part goes", x.without(0, 3), 5);
+        due.is("a part comes", x.part(0, Due.name("new"), 3, 0, 'n'), 5);
+        due.is("a part widens", x.becomes(0, 1, 7, 0), 1);
+        due.is("a part widens", x.becomes(1, 0, 7, 0), 6);
+        due.is("load(1)", x.load(1), 1);
+        long[] inner = {1, 0xc059000000000000L, -30000, 7, 1L << 40, 'n'};
+        long[] outer = {0x3ff8000000000000L, 0x4004000000000000L, 1, 3, 0, 0};
+        for (int p = 0; p < 6; p++) due.is("told(0, " + p + ")", x.told(0, p), inner[p]);
+        for (int p = 0; p < 6; p++) due.is("told(1, " + p + ")", x.told(1, p), outer[p]);
+        due.is("LEFT OUT", x.count(7), 1);
+        due.is("item(0, 0)", x.item(0, 0), 0);
+        due.is("item(0, 1)", x.item(0, 1), 1);
+        int[] starts = {0, 1, 10, NONE};
+        for (int i = 0; i < 4; i++) due.is("started(" + i + ")", x.started(i), starts[i]);
+        due.is("build()", x.build(), 2);
+        due.is("a constructor that checks more", x.check(0, 5, 0, 'o', 'z'), 2);
+        due.is("load(1)", x.load(1), -11);
+        causeIs(x, 1, 0, 5, 1, 0);
+    }
+
+    private static void lastCalls() {
+        due.term("An object is used for at most 512 calls after it has been made; what later calls answer is free.");
+        for (int end = 0; end < 6; end++) {
+            FamilyFields x = new FamilyFields();
+            x.record();
+            x.part(0, 'a', 5, 0, 0);
+            for (int call = 3; call < 509; call++) due.is("give(0, " + call + ")", x.give(0, call), 1);
+            due.is("make(0), the 509th call", x.make(0), 0);
+            due.is("keep(0), the 510th call", x.keep(0), 0);
+            due.is("build(), the 511th call", x.build(), 1);
+            if (end == 0) due.is("load(0), the 512th call", x.load(0), 0);
+            if (end == 1) due.is("make(0), the 512th call", x.make(0), 0);
+            if (end == 2) due.is("count(5), the 512th call", x.count(5), 1);
+            if (end == 3) due.is("part(0, ..), the 512th call", x.part(0, 'b', 4, 0, 0), 1);
+            if (end == 4) due.is("row(4, 16), the 512th call", x.row(4, 16), 0);
+            if (end == 5) due.is("build(), the 512th call", x.build(), 0);
+        }
     }
 
     private static void keepIsBad() {
@@ -155,6 +243,55 @@ public final class TableEdgesTest {
             x.build();
             due.is("load(6) with all its PARTS", x.load(6), 6);
         }
+    }
+
+    private static void keepsOfEachPart() {
+        due.term("then it is the next LINE: the RECORD, the BUILD, and of each PART NAME, SORT, ENUMERATION or LANE, and:");
+        FamilyFields x = Worlds.withConstants(2);
+        x.enumeration();
+        for (int c = 0; c < 2; c++) x.constant(1, 'a' + c, false);
+        for (int r = 0; r < 2; r++) x.record();
+        int[][] parts = {{3, 0}, {8, 0}, {9, 0}, {10, 1}};
+        for (int r = 0; r < 2; r++) {
+            for (int p = 0; p < 4; p++) x.part(r, 'a' + p, parts[p][0], parts[p][1], 0);
+        }
+        x.build();
+        x.row(1, 2);
+        for (int r = 1; r >= 0; r--) {
+            due.is("keep", x.keep(Worlds.make(x, r, 65535, 1, 3, 0)), 1 - r);
+            due.is("the RECORD", x.line(1 - r, 0), r);
+            due.is("the BUILD", x.line(1 - r, 1), 1);
+            due.is("PARTS", x.line(1 - r, 2), 4);
+        }
+        x.build();
+        keptOf(x, 0, 4, 0, 0, 65535);
+        keptOf(x, 0, 2, 0, -16, 0);
+        keptOf(x, 1, 8, 1, -16, 0);
+        keptOf(x, 1, 9, 1, -16, 0);
+        keptOf(x, 1, 9, 0, 0, 2);
+        keptOf(x, 2, 9, 1, -16, 0);
+        keptOf(x, 2, 8, 0, -16, 0);
+        keptOf(x, 3, 10, 2, -16, 0);
+        for (int p = 0; p < 4; p++) x.without(0, 0);
+        for (int p = 3; p >= 0; p--) x.part(0, p == 2 ? 'z' : 'a' + p, parts[p][0], parts[p][1], 0);
+        due.is("load(1), with its PARTS in another order", x.load(1), 0);
+        long[] told = {0, 0, 1, 65535};
+        for (int p = 0; p < 4; p++) due.is("told(0, " + p + ")", x.told(0, p), told[p]);
+        due.is("load(0), of the other RECORD", x.load(0), 1);
+        told = new long[] {65535, 1, 3, 1};
+        for (int p = 0; p < 4; p++) due.is("told(1, " + p + ")", x.told(1, p), told[p]);
+    }
+
+    /** Line 1, of record 0, is loaded with one part of another sort, or of another of; then the part is as it was. */
+    private static void keptOf(FamilyFields x, int part, int sort, int of, int answer, long told) {
+        int[] ofs = {0, 0, 0, 1};
+        int before = x.becomes(0, part, sort, of);
+        due.is("load(1) with PART " + part + " of SORT " + sort + ", of " + of, x.load(1), answer);
+        if (answer == 0) due.is("told(0, " + part + ")", x.told(0, part), told);
+        x.build();
+        x.becomes(0, part, before, ofs[part]);
+        due.is("load(1) as it was", x.load(1), 0);
+        x.build();
     }
 
     private static void keepsWhatIsThen() {
