@@ -640,6 +640,14 @@ public final class ObjectsEdgesTest {
         x.check(0, 0, 0, 5, 9);
         due.is("load(0)", x.load(0), -11);
         causeIs(x, 1, 0, 0, 1, 0);
+        due.is("becomes(0, 0, 4, 0), without its CHECKS", x.becomes(0, 0, 4, 0), 4);
+        due.is("load(0) that does not fail", x.load(0), 0);
+        causeIs(x, 1, 0, 0, 1, 0);
+        x.build();
+        x.without(0, 0);
+        causeIs(x, 1, 0, 0, 1, 0);
+        x.part(0, 'a', 4, 0, 0);
+        x.check(0, 0, 2, 0, 0);
         due.is("make(0)", Worlds.make(x, 0, 0), -13);
         causeIs(x, 3, 0, 0, 0, NONE);
         for (int what : new int[] {-1, 5, LEAST, MOST}) due.is("cause(" + what + ")", x.cause(what), LEAST);

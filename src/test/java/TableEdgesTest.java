@@ -613,6 +613,33 @@ public final class TableEdgesTest {
         x.becomes(0, 2, 4, 0);
         due.is("load(63): all 64", x.load(63), 63);
         for (int l = 0; l < 64; l++) due.is("line(" + l + ", 3)", x.line(l, 3), l);
+        x.build();
+        x.becomes(0, 2, 3, 0);
+        due.is("load(63): a PART of the one 63 below does not go", x.load(63), -16);
+        causeIs(x, 6, 0, 2, NONE, 0);
+        innerOfAnotherRecord();
+    }
+
+    private static void innerOfAnotherRecord() {
+        FamilyFields x = Worlds.withPart(11, 0);
+        x.record();
+        x.permit(0, false, 1);
+        x.part(1, 'b', 5, 0, 0);
+        x.part(1, 'c', 8, 0, 0);
+        Worlds.make(x, 1, 7, 2);
+        Worlds.make(x, 0, 0);
+        x.keep(1);
+        x.build();
+        x.forget(0, 2);
+        due.is("load(1): a CONSTANT of its PART is UNKNOWN", x.load(1), -18);
+        causeIs(x, 8, 1, 1, NONE, 0);
+        x.becomes(1, 0, 4, 0);
+        due.is("load(1): a number of its PART does not go", x.load(1), -16);
+        causeIs(x, 6, 1, 0, NONE, 0);
+        x.without(1, 0);
+        x.becomes(1, 0, 9, 0);
+        due.is("load(1)", x.load(1), 1);
+        causeIs(x, 6, 1, 0, NONE, 0);
     }
 
     private static void objectsOfFamilies() {
